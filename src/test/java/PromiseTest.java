@@ -303,6 +303,8 @@ public final class PromiseTest {
         faultIs("s09", false, 3);
         faultIs("s100", false, 3);
         faultIs("e10", false, 3);
+        faultIs("w10", false, 3);
+        faultIs("t10", false, 3);
         faultIs("w1 0", false, 3);
         faultIs("Y1", false, 0);
         faultIs("  y1 :", false, 5);
@@ -660,8 +662,11 @@ public final class PromiseTest {
         is("what was to come comes", x.go(1), 4);
         is("all fell again", x.count(3), 24);
         is("its own flour", cell(0, 1), 20 - 3 + 10 - 1);
+        loaf("y9 s12 w0 t0", "r2:9");
         x.go(9);
         is("on(0) again", x.on(0), 4);
+        is("another loaf's falls leave what is kept", x.mark(0, 3), 4);
+        is("another loaf's falls leave what is kept", x.mark(2, 3), 14);
         is("turn", x.count(2), 4);
         finds("on(1)", NOTHING, () -> x.on(1));
         refuses("on(3)", BAD, () -> x.on(3));
@@ -736,6 +741,12 @@ public final class PromiseTest {
         x.go(11);
         tells("three holes", x.holes(), 3, 6);
         is("torn", x.count(3), 9);
+        loaf("y9s60e4w0t2", "o9:6");
+        x.go(8);
+        tells("one of side, bottom and top", x.holes(), 1, 14);
+        loaf("y5s97e2w5t3", "o9:13 o6:12");
+        x.go(31);
+        tells("5; 11, 13; 19", x.holes(), 3, 2);
     }
 
     private static int holesByHand() {
@@ -811,6 +822,10 @@ public final class PromiseTest {
         refuses("why(6)", BAD, () -> x.why(6));
         refuses("why(-1)", BAD, () -> x.why(-1));
         tells("why(0)", x.why(0), 23, 0);
+        x.row(4, 40);
+        x.lay(4, 24, 9);
+        fillRow(4, 2);
+        tells("why(4), once longer", x.why(4), 23, 0);
         x.lay(0, 23, 3);
         finds("why(0) with a 3", UNLIKE, () -> x.why(0));
         x.lay(0, 23, -1);
@@ -940,6 +955,12 @@ public final class PromiseTest {
         DUE.is("promise 30: the loaf stays", Long.toString(x.digest()), before);
         loaf("y1 t9 e0", "o9:8");
         tells("one more turn: the outer ones are done", x.change(), 3, 120 + 14);
+        loaf("y1 t0 s99", "r2:29 r2:4");
+        tells("up to 30 turns", x.change(), 3, 120 + 4 * 12);
+        loaf("y1 t9 e0", "o9:8 r0:30 r0:30 r0:21");
+        tells("up to 90 turns", x.change(), 3, 120 + 14);
+        loaf("y1 t9 e0", "o9:8 r0:30 r0:30 r0:22");
+        tells("not more than 90 turns", x.change(), 0, 120);
 
         promise = 31;
         x = new LoafFall();
