@@ -1,0 +1,32 @@
+import java.util.ArrayList;
+import java.util.List;
+import java.util.function.Consumer;
+
+/** Tests of single sentences of the document, each on a LoafFall of its own, named by promise and sentence. */
+final class Edges {
+    static final int PROMISES = 48;
+
+    private final Due due;
+    private final int[] tests = new int[PROMISES + 1];
+    private final List<String> sentences = new ArrayList<>();
+
+    Edges(Due due) {
+        this.due = due;
+    }
+
+    void test(int promise, String sentence, Consumer<Run> calls) {
+        Run run = new Run(due, "promise " + promise + ", '" + sentence + "'");
+        calls.accept(run);
+        run.end();
+        tests[promise]++;
+        sentences.add(sentence);
+    }
+
+    int testsOf(int promise) {
+        return tests[promise];
+    }
+
+    List<String> sentences() {
+        return sentences;
+    }
+}
