@@ -75,6 +75,8 @@ final class EdgeChanges {
             t.tells("change()", 4, 120);
             t.loaf("", "r2:1".repeat(9) + "k");
             t.tells("change()", 94, 156);
+            t.loaf(SLOW, "r2:4kr2:30");
+            t.tells("change()", 14, 168);
         });
     }
 
@@ -119,6 +121,10 @@ final class EdgeChanges {
             t.tells("changes()", 313, 168);
             t.loaf(SLOW, "r2:30r2:2");
             t.tells("changes()", 1313, 168);
+            t.loaf(WHOLE, "r5:5");
+            t.tells("changes()", 0, 120);
+            t.loaf(BAKES, "kkkkkkkkko9:7");
+            t.tells("changes()", 9393, 120 + 14);
         });
     }
 
@@ -211,6 +217,15 @@ final class EdgeChanges {
             t.flour(2, "y9s25w3");
             t.tells("flours(0)", 11, 9);
         });
+        edges.test(33, "by which a DOING, baked, tears no CELL", t -> {
+            t.flour(0, "y9s63w0");
+            String[] doings = {"r2:8", "o2:8", "r2:8x", "r2:8k", "r2:8x", "r2:9", "r4:8", "r2:8"};
+            int[] due = {1, 0, 0, 1, 0, 0, 0, 1};
+            for (int i = 0; i < doings.length; i++) {
+                t.doing(i % 4, doings[i]);
+                t.is("flours(" + i % 4 + ")", due[i]);
+            }
+        });
         edges.test(33, "BAD; NOTHING: the DOING, no FLOUR.", t -> {
             t.bad("flours(-1)", "flours(4)", "flours(LOW)", "flours(HIGH)");
             t.finds("flours(0)", Run.NOTHING);
@@ -266,6 +281,8 @@ final class EdgeChanges {
             t.finds("begin(9)", Run.UNLIKE);
             t.loaf(NEVER, "ko1:1xdr1:1");
             t.tells("begin(9)", 1, 2);
+            t.loaf(NEVER, "ko1:1xd");
+            t.finds("begin(9)", Run.UNLIKE);
         });
     }
 
@@ -319,8 +336,10 @@ final class EdgeChanges {
             t.bad("oven(-3)", "oven(3)");
             t.loaf(WHOLE, "kr1:1xd");
             t.finds("oven(-2)", Run.UNLIKE);
-            t.loaf(WHOLE, "kr1:1xdo1:1");
+            t.loaf(WHOLE, "kr1:1xdo1:1o1:1");
             t.tells("oven(2)", 1, 0);
+            t.loaf(WHOLE, "kr1:1xd");
+            t.finds("oven(2)", Run.UNLIKE);
         });
     }
 
@@ -373,6 +392,8 @@ final class EdgeChanges {
             t.finds("even()", Run.UNLIKE);
             t.loaf(NEVER, "ko1:1xdr1:1");
             t.tells("even()", 5, 24);
+            t.loaf(NEVER, "ko1:1xd");
+            t.finds("even()", Run.UNLIKE);
         });
     }
 

@@ -1,3 +1,5 @@
+import java.util.Arrays;
+
 /** Edges of promises 15 to 17 and 20 to 25: LOAVES, how far they go, what is kept, what one sees of them. */
 final class EdgeLoaves {
     /** Its inner CELLS (MIDDLE ones, but for the bottom and the top) tear in TURN 26, the others in TURN 27. */
@@ -20,11 +22,6 @@ final class EdgeLoaves {
         cut(edges);
         rests(edges);
         restsWithoutDoing(edges);
-    }
-
-    private static void begun(Run t, String flour, String doing, int turns) {
-        t.loaf(flour, doing);
-        t.is("go(" + turns + ")", turns);
     }
 
     // ---- 15
@@ -59,7 +56,7 @@ final class EdgeLoaves {
             t.stretch(0, 28);
         });
         edges.test(15, "from TURN 0 on", t -> {
-            begun(t, "y9s20w0", "r2:9", 5);
+            t.gone("y9s20w0", "r2:9", 5);
             t.falls(24);
             t.is("loaf(0, 0)", 9);
             t.is("count(2)", 0);
@@ -126,7 +123,7 @@ final class EdgeLoaves {
             t.is("count(2)", 99);
         });
         edges.test(16, "to TURN 99 at most", t -> {
-            begun(t, "", "r3:9", 98);
+            t.gone("", "r3:9", 98);
             t.is("keep(0)", 98);
             t.is("go(1)", 99);
             t.is("keep(1)", 99);
@@ -148,15 +145,15 @@ final class EdgeLoaves {
             t.cellIs(0, 14, 57);
         });
         edges.test(16, "done as the first thing of the TURN that comes then (one behind the other)", t -> {
-            begun(t, "y9s40", "r2:2kxr2:1", 3);
+            t.gone("y9s40", "r2:2kxr2:1", 3);
             t.gas(0, 14 / 2 - 1 + 7);
-            begun(t, "y9s40", "r2:2xkr2:1", 3);
+            t.gone("y9s40", "r2:2xkr2:1", 3);
             t.gas(0, (14 - 3) / 2 + 7);
-            begun(t, "y1t9s40", "kkkkkkkkkk", 1);
+            t.gone("y1t9s40", "kkkkkkkkkk", 1);
             t.stretch(0, 98);
         });
         edges.test(16, "Behind all STEPS it is on the TABLE, of WARMTH 2.", t -> {
-            begun(t, "y1t9", "o9:1", 1);
+            t.gone("y1t9", "o9:1", 1);
             t.heat(0, 55);
             t.is("go(1)", 2);
             t.heat(0, 38);
@@ -164,7 +161,7 @@ final class EdgeLoaves {
             t.heat(0, 29);
             t.is("go(96)", 99);
             t.heat(0, 21);
-            begun(t, "y1t9", "", 1);
+            t.gone("y1t9", "", 1);
             t.heat(0, 20);
         });
     }
@@ -242,10 +239,35 @@ final class EdgeLoaves {
             t.cellIs(0, 0, 20, 20);
             t.is("count(5)", 3);
         });
+        edges.test(21, "The LOAF is as it was kept", t -> {
+            t.loaf("y9s20", "r2:3kr9:3x");
+            t.is("go(2)", 2);
+            t.is("keep(0)", 2);
+            t.is("go(5)", 7);
+            t.is("on(0)", 2);
+            t.is("go(1)", 3);
+            t.cellIs(0, 21, 17, 20);
+            t.is("go(1)", 4);
+            t.cellIs(0, 10 + 18, 26, 55);
+        });
+        edges.test(21, "as it was kept in a place", t -> {
+            t.loaf("y9s20", "r2:3x");
+            t.is("go(4)", 4);
+            t.is("keep(1)", 4);
+            t.loaf(INNER_FLOUR, INNER_DOING);
+            t.is("go(26)", 26);
+            t.fallIs(0, 4, 3, 52, 25);
+            t.is("on(1)", 4);
+            t.falls(24);
+            t.fallIs(0, 3, 0, 21, 3);
+            t.is("mark(0, 3)", 4);
+            t.is("mark(2, 3)", 14);
+            t.fallIs(23, 3, 23);
+        });
         edges.test(21, "BAD; NOTHING.", t -> {
             t.bad("on(-1)", "on(3)", "on(LOW)", "on(HIGH)");
             t.finds("on(0)", Run.NOTHING);
-            begun(t, "", "r3:3", 2);
+            t.gone("", "r3:3", 2);
             t.is("keep(1)", 2);
             t.is("go(1)", 3);
             t.finds("on(0)", Run.NOTHING);
@@ -273,9 +295,9 @@ final class EdgeLoaves {
             t.tells("height()", 144, 144);
         });
         edges.test(22, "less 3 for each TORN one", t -> {
-            begun(t, "y9s20w0", "r2:9", 5);
+            t.gone("y9s20w0", "r2:9", 5);
             t.is("height()", 120 - 72);
-            begun(t, INNER_FLOUR, INNER_DOING, 26);
+            t.gone(INNER_FLOUR, INNER_DOING, 26);
             t.falls(10);
             t.is("height()", 10 + 5 + 10 * (10 + 2 - 3) + 10 + 7);
         });
@@ -288,19 +310,19 @@ final class EdgeLoaves {
 
     private static void worth(Edges edges) {
         edges.test(22, "DONE are CELLS of SET 50 or more that are not TORN.", t -> {
-            begun(t, "y1t9e6", "o9:30o9:30", 52);
+            t.gone("y1t9e6", "o9:30o9:30", 52);
             t.set(0, 49);
             t.tells("height()", 120, 120);
             t.is("go(1)", 53);
             t.set(0, 50);
             t.tells("height()", 120, 120 + 14);
-            begun(t, INNER_FLOUR, INNER_DOING + "o9:30", 56);
+            t.gone(INNER_FLOUR, INNER_DOING + "o9:30", 56);
             t.set(3, 99);
             t.torn(3, 1);
             t.tells("height()", 122, 122 + 14 - 50);
         });
         edges.test(22, "HEIGHT and DONE together less 5 for each TORN one; 0 at least.", t -> {
-            begun(t, INNER_FLOUR, INNER_DOING, 26);
+            t.gone(INNER_FLOUR, INNER_DOING, 26);
             t.tells("height()", 122, 122 - 50);
             t.is("go(1)", 27);
             t.tells("height()", 48, 0);
@@ -318,28 +340,43 @@ final class EdgeLoaves {
             t.tells("holes()", 1, 10);
             t.is("go(1)", 27);
             t.tells("holes()", 1, 24);
+            t.is("loaf(0, 0)", 26);
+            t.tells("holes()", 0, 0);
         });
         edges.test(23, "HOLES are TORN CELLS that hang together by NEIGHBOURS.", t -> {
-            begun(t, "y5s97e2w5t3", "o9:13o6:12", 31);
-            for (int c = 0; c < 24; c++) {
-                t.torn(c, c == 5 || c == 11 || c == 13 || c == 19 ? 1 : 0);
-            }
+            t.gone("y1s12e7w1t4", "o7:10", 11);
+            tornAre(t, 9, 11, 13, 15, 17, 19, 21, 23);
+            t.tells("holes()", 1, 8);
+            t.gone("y8s49e2w6t2", "o7:13r2:4", 15);
+            tornAre(t, 3, 11, 13, 15, 17, 19, 21, 23);
+            t.tells("holes()", 2, 7);
+            t.gone("y5s97e2w5t3", "o9:13o6:12", 31);
+            tornAre(t, 5, 11, 13, 19);
             t.tells("holes()", 3, 2);
-            begun(t, "y9e6s99w9", "r2:2o9:30o9:22", 55);
-            for (int c = 0; c < 24; c++) {
-                t.torn(c, c % 2 == 0 || c == 1 || c == 23 ? 1 : 0);
-            }
+            t.gone("y6s86e4w6t2", "o2:12o9:20r1:15", 35);
+            tornAre(t, 3, 21);
+            t.tells("holes()", 2, 1);
+        });
+        edges.test(23, "hang together by NEIGHBOURS", t -> {
+            t.gone("y9e6s99w9", "r2:2o9:30o9:22", 55);
+            tornAre(t, 0, 1, 2, 4, 6, 8, 10, 12, 14, 16, 18, 20, 22, 23);
             t.tells("holes()", 1, 14);
         });
         edges.test(23, "NEIGHBOURS are below, above, beside it.", t -> {
-            begun(t, "y9s20w0", "r2:9", 5);
+            t.gone("y9s20w0", "r2:9", 5);
             t.tells("holes()", 1, 24);
         });
     }
 
+    private static void tornAre(Run t, int... cells) {
+        for (int c = 0; c < 24; c++) {
+            t.torn(c, Arrays.binarySearch(cells, c) >= 0 ? 1 : 0);
+        }
+    }
+
     private static void cut(Edges edges) {
         edges.test(24, "The CUT of the LOAF comes to a ROW (anew): how many are TORN.", t -> {
-            begun(t, INNER_FLOUR, INNER_DOING, 26);
+            t.gone(INNER_FLOUR, INNER_DOING, 26);
             t.is("cut(0)", 10);
             t.rowIs(0, 2, 2, 2, 1, 2, 1, 2, 1, 2, 1, 2, 1, 2, 1, 2, 1, 2, 1, 2, 1, 2, 1, 2, 2);
             t.finds("at(0, 24)", Run.BEYOND);
@@ -353,14 +390,14 @@ final class EdgeLoaves {
             t.is("count(7)", 3);
         });
         edges.test(24, "of each CELL 1 TORN, 2 STICKY (not TORN, SET below 50), 0 else", t -> {
-            begun(t, "y1t9e6", "o9:30o9:30", 52);
+            t.gone("y1t9e6", "o9:30o9:30", 52);
             t.is("cut(0)", 0);
             t.tells("at(0, 0)", 2);
             t.is("go(1)", 53);
             t.is("cut(0)", 0);
             t.tells("at(0, 0)", 0);
             t.tells("at(0, 3)", 2);
-            begun(t, INNER_FLOUR, INNER_DOING + "o9:30", 56);
+            t.gone(INNER_FLOUR, INNER_DOING + "o9:30", 56);
             t.is("cut(0)", 10);
             t.tells("at(0, 2)", 0);
             t.tells("at(0, 3)", 1);
@@ -424,9 +461,18 @@ final class EdgeLoaves {
     }
 
     private static void restsWithoutDoing(Edges edges) {
+        edges.test(25, "(It stays.)", t -> {
+            t.doing(1, "r0:9");
+            t.loaf("y9s25w4", "r2:9");
+            t.tells("flours(1)", 1, 1);
+            t.is("rests(2)", 6);
+            t.tells("flours(0)", 0, 1);
+            t.is("rests(2)", 6);
+            t.tells("flours(1)", 1, 1);
+        });
         edges.test(25, "(nothing of the DOING comes any more, no KNEAD, KNOCK, DOOR that was to come either)", t -> {
             for (String doing : new String[] {"r2:2", "r2:2x", "r2:2k", "r2:2d", "r2:30", "r2:2r9:9"}) {
-                begun(t, "y9s15w9", doing, 2);
+                t.gone("y9s15w9", doing, 2);
                 t.is("rests(2)", 2);
             }
             t.loaf("y9s60", "o2:30");

@@ -177,6 +177,15 @@ final class EdgeSlips {
             t.tells("spans(0, 96, 0, false)", 81, 48);
             t.tells("spans(0, 999, 0, true)", 81, 168);
         });
+        edges.test(40, "How many LAWS", t -> {
+            t.flour(0, "t0");
+            t.doing(0, "r2:8");
+            t.is("slip(0, 999)", 0);
+            t.tells("spans(0, 0, 0, false)", 1, 264);
+            t.tells("spans(0, 0, 0, true)", 1, 264);
+            t.is("spans(0, 11, 0, true)", 1);
+            t.tells("spans(0, 12, 0, false)", 2, 252);
+        });
     }
 
     private static void spansRefused(Edges edges) {

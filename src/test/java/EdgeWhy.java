@@ -109,6 +109,10 @@ final class EdgeWhy {
             }
             t.is("row(1, 24)", 24);
             t.tells("why(1)", 0, 24);
+            t.is("row(1, 40)", 40);
+            t.is("lay(1, 24, 9)", 1);
+            t.is("row(1, 24)", 24);
+            t.tells("why(1)", 0, 24);
         });
         edges.test(26, "UNLIKE: not 0 .. 2", t -> {
             t.flour(0, "");
@@ -182,6 +186,8 @@ final class EdgeWhy {
             t.parts("odds(0, 2)", 1, 1, 1);
             t.parts("odds(0, 0)", 1, 0, 1);
             t.parts("odds(0, 3)", 1, 0, 1);
+            t.row(1, ALL_DONE);
+            t.parts("odds(1, 2)", 1, 1, 1);
             t.is("asked()", 0);
         });
     }
@@ -238,7 +244,8 @@ final class EdgeWhy {
         });
     }
 
-    // ---- 29: baked by "o7:13", "o8:13", "o9:13" all is STICKY, the OUTER ones are DONE, all is DONE
+    // ---- 29: baked by "o7:13", "o8:13", "o9:13" all is STICKY, the OUTER ones are DONE, all is DONE; y9t0s99w9
+    // baked by "o0:30" is STICKY, by "o1:30" and warmer ones it has more GAS and tears on the TABLE
 
     private static void rack(Edges edges) {
         edges.test(29, "(0 .. 9 at last), so that, baked, the CUT is least UNLIKE a ROW", t -> {
@@ -254,6 +261,18 @@ final class EdgeWhy {
             t.tells("rack(0, 0, 0)", 5, 14);
             t.doing(0, "o0:9");
             t.tells("rack(0, 0, 0)", 5, 14);
+        });
+        edges.test(29, "(0 .. 9 at last)", t -> {
+            t.flour(0, "y9t0s99w9");
+            t.row(0, ALL_STICKY);
+            t.doing(0, "o0:30");
+            t.tells("rack(0, 0, 0)", 5, 0);
+            t.doing(0, "o1:30");
+            t.tells("rack(0, 0, 0)", 4, 0);
+            t.doing(0, "o2:30");
+            t.tells("rack(0, 0, 0)", 3, 0);
+            t.doing(0, "o3:30");
+            t.tells("rack(0, 0, 0)", 5, 24);
         });
         edges.test(29, "told with 5 more; how UNLIKE by asked()", t -> {
             t.flour(0, WHOLE + "e0");

@@ -177,6 +177,12 @@ final class Run {
         same("loaf of '" + flour + "', '" + doing + "'", Math.min(0, take("loaf(0, 0)")), 0);
     }
 
+    /** Such a LOAF, gone on by so many TURNS. */
+    void gone(String flour, String doing, int turns) {
+        loaf(flour, doing);
+        is("go(" + turns + ")", turns);
+    }
+
     /** A ROW of these figures. */
     void row(int r, String figures) {
         is("row(" + r + ", " + figures.length() + ")", figures.length());
