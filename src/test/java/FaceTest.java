@@ -27,6 +27,9 @@ public final class FaceTest {
         due.is("public final", Modifier.toString(LoafFall.class.getModifiers()), "public final");
         due.is("methods", seenMethods().toString(), new TreeSet<>(Arrays.asList(METHODS)).toString());
         due.is("constants", seenFields().toString(), new TreeSet<>(Arrays.asList(CONSTANTS)).toString());
+        TreeSet<String> all = seenMethods();
+        all.addAll(seenFields());
+        due.is("the document's face", all.toString(), new Document().face().toString());
         Constructor<?>[] made = LoafFall.class.getDeclaredConstructors();
         due.is("constructors", made.length, 1);
         due.is("the constructor", made[0].toString(), "public LoafFall()");

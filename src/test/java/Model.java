@@ -1091,6 +1091,22 @@ final class Model {
         return tell(b.tall(), b.worth());
     }
 
+    int asked() {
+        return asked;
+    }
+
+    long upper() {
+        return upper;
+    }
+
+    long lower() {
+        return lower;
+    }
+
+    int finding() {
+        return finding;
+    }
+
     int count(int what) {
         int[] n = new int[9];
         for (int k = 0; k < 4; k++) {

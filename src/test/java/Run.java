@@ -7,8 +7,10 @@ import java.util.List;
 import java.util.Map;
 
 /**
- * Calls on one LoafFall, told as texts like "lay(0, 1, LOW)". What is taken is written down: at the end a
- * second LoafFall that was asked these calls alone must be as the first one, whatever was refused between.
+ * Calls on one LoafFall, told as texts like "lay(0, 1, LOW)". Model, the slow second writing of the document, is
+ * asked each of them too, so that no value that is due hangs on the program alone. What is taken is written down:
+ * at the end a second LoafFall that was asked these calls alone must be as the first one, whatever was refused
+ * between.
  */
 final class Run {
     static final int BAD = -1, FULL = -2, FINDING = -3, STATE = -4, SPENT = -6, NONE = -9;
@@ -16,6 +18,7 @@ final class Run {
 
     private static final int CALLS_MOST = 512;
     private static final Map<String, Method> FACE = new HashMap<>();
+    private static final Map<String, Method> SLOW = new HashMap<>();
     private static final String[] SHOWN = {"digest()", "asked()", "upper()", "lower()", "finding()", "findings(1)",
         "findings(2)", "findings(3)", "findings(4)", "findings(5)"};
     /** What digest() does not show: the LOAF's own FLOUR and DOING, how far it is in them, what is kept. */
@@ -30,12 +33,18 @@ final class Run {
                 FACE.put(m.getName(), m);
             }
         }
+        for (Method m : Model.class.getDeclaredMethods()) {
+            if (FACE.containsKey(m.getName())) {
+                SLOW.put(m.getName(), m);
+            }
+        }
     }
 
     private final Due due;
     private final String name;
     private final List<String> taken = new ArrayList<>();
     private LoafFall x = new LoafFall();
+    private Model slow = new Model();
     private int calls;
     private boolean refused;
     private long[] shown;
@@ -56,9 +65,9 @@ final class Run {
         };
     }
 
-    private static long answer(LoafFall of, String call) {
+    private static long answer(Object of, Map<String, Method> methods, String call) {
         int open = call.indexOf('(');
-        Method method = FACE.get(call.substring(0, open));
+        Method method = methods.get(call.substring(0, open));
         String inside = call.substring(open + 1, call.length() - 1);
         Object[] with = inside.isEmpty() ? new Object[0]
                 : Arrays.stream(inside.split(", ")).map(Run::number).toArray();
@@ -73,7 +82,9 @@ final class Run {
 
     private long look(String call) {
         calls++;
-        return answer(x, call);
+        long got = answer(x, FACE, call);
+        same(call + " by the slow model", got, answer(slow, SLOW, call));
+        return got;
     }
 
     private void same(String what, long got, long wanted) {
@@ -244,6 +255,7 @@ final class Run {
         end();
         taken.clear();
         x = new LoafFall();
+        slow = new Model();
         calls = 0;
         refused = false;
         shown = null;
@@ -253,10 +265,10 @@ final class Run {
         if (refused) {
             LoafFall other = new LoafFall();
             for (String call : taken) {
-                answer(other, call);
+                answer(other, FACE, call);
             }
             for (String call : HIDDEN) {
-                same("at the end, " + call, look(call), answer(other, call));
+                same("at the end, " + call, look(call), answer(other, FACE, call));
             }
         }
         due.is(name + ": asks more calls than an object is used for", calls > CALLS_MOST, false);
