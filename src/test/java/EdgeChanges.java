@@ -172,6 +172,16 @@ final class EdgeChanges {
             t.refuses("wide(0)", Run.NONE);
             t.is("asked()", 1);
         });
+        edges.test(32, "no CELL is TORN; the greatest by asked()", t -> {
+            t.loaf("y3s99e0", "r2:8o9:9");
+            t.tells("wide(1)", 1, 30);
+            int[] turns = {1, 2, 11, 12, 30};
+            int[] whole = {1, 0, 0, 1, 1};
+            for (int i = 0; i < turns.length; i++) {
+                t.doing(1, "r2:8o9:" + turns[i]);
+                t.is("flours(1)", whole[i]);
+            }
+        });
     }
 
     private static void wideRefused(Edges edges) {
@@ -259,6 +269,10 @@ final class EdgeChanges {
             t.loaf(SLOW, "o2:1r0:3o2:1r9:2");
             t.tells("begin(2)", 30, 34);
         });
+        edges.test(34, "A room of WARMTH w (all REST of the LOAF's DOING are so) ... on the TABLE, of WARMTH 2", t -> {
+            t.loaf(BAKES, "r2:1o0:30o0:30o0:20");
+            t.tells("begin(9)", 9, 89);
+        });
         edges.test(34, "(n as it was can always be told.)", t -> {
             t.loaf(SLOW, "r0:3o0:30o0:30r0:20");
             t.tells("begin(2)", 10, 90);
@@ -311,6 +325,12 @@ final class EdgeChanges {
             t.tells("oven(-2)", 30, 8);
             t.loaf("y1t9e2", "o9:30");
             t.tells("oven(-2)", 1, 24);
+        });
+        edges.test(35, "Another oven, by off (-2 .. 2) of another WARMTH", t -> {
+            t.loaf(BAKES, "o9:5o9:4");
+            t.tells("oven(-1)", 7, 0);
+            t.loaf(BAKES, "o8:7o8:5");
+            t.tells("oven(1)", 2, 0);
         });
         edges.test(35, "the last OVEN of the LOAF's DOING", t -> {
             t.loaf(BAKES, "o2:3r2:1o9:9r2:1");

@@ -433,6 +433,13 @@ final class EdgeLoaves {
             t.is("go(99)", 99);
             t.is("rests(9)", 60);
         });
+        edges.test(25, "it may still go from here on", t -> {
+            t.gone("y9t9s99w9", "", 99);
+            t.cellIs(0, 0, 0, 20, 0, 0);
+            t.is("rests(2)", 60);
+            t.is("rests(5)", 9);
+            t.is("go(0)", 99);
+        });
         edges.test(25, "till the TURN in which a CELL tears (that not counted)", t -> {
             t.loaf("y9s16w3", "");
             t.is("rests(2)", 3);

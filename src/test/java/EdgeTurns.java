@@ -364,6 +364,12 @@ final class EdgeTurns {
             t.heat(11, 20 + 15 / 4);
             t.heat(21, 20 + 30 / 4);
         });
+        edges.test(16, "HEAT of OUTER ones 20 less", t -> {
+            t.gone("y9s37", "r2:5xdr2:1", 6);
+            t.falls(24);
+            t.heat(4, 0 + 20 / 2);
+            t.heat(5, 20 - 20 / 4);
+        });
     }
 
     // ---- FALLS

@@ -274,6 +274,14 @@ final class EdgeWhy {
             t.doing(0, "o3:30");
             t.tells("rack(0, 0, 0)", 5, 24);
         });
+        edges.test(29, "WARMTH of its place in the OVEN was another one", t -> {
+            t.flour(0, WHOLE + "e0");
+            t.doing(0, "o8:5r9:1o8:3");
+            t.row(0, OUTER_DONE);
+            t.tells("rack(0, 0, 0)", 6, 0);
+            t.doing(0, "r8:5r8:4");
+            t.tells("rack(0, 0, 0)", 5, 14);
+        });
         edges.test(29, "told with 5 more; how UNLIKE by asked()", t -> {
             t.flour(0, WHOLE + "e0");
             t.row(0, ALL_STICKY);
